@@ -13,6 +13,7 @@ public final class StrangerHall {
     private static final int MOST_COINS = 1000000;
     private static final int MOST_TICKS = 1000;
     private static final int LAST_TICK = 100000;
+    private static final int NEVER = 2147483647;
     private static final int MOST_BIDS = 24;
     private static final int MOST_CHOSEN = 5;
     private static final int MOST_BID_HOURS = 1000;
@@ -284,6 +285,7 @@ public final class StrangerHall {
         }
         doubter.coins -= doubted.pledge;
         court.beginQuarrel(work, piece, house, sum);
+        court.judgeIfNarrow(work, piece);
         return 1;
     }
 
@@ -494,7 +496,7 @@ public final class StrangerHall {
     }
 
     private int earliestDue() {
-        int earliest = Integer.MAX_VALUE;
+        int earliest = NEVER;
         for (int t = 0; t < taskCount && t < MOST_TASKS; t++) {
             Task work = tasks[t];
             for (int p = 0; p < work.pieceCount && p < MOST_PIECES; p++) {
@@ -680,7 +682,6 @@ public final class StrangerHall {
         private int compile(int bytes) {
             size = 0;
             fault = 0;
-            place = NONE;
             tape.begin(bytes);
             if (!statements(0)) {
                 return fault;
@@ -810,16 +811,17 @@ public final class StrangerHall {
         }
 
         private boolean expression(int level, int open) {
-            if (level > FACTORS) {
-                return unit(open);
-            }
-            boolean good = expression(level + 1, open);
+            boolean good = operand(level, open);
             for (int i = 0; i < MOST_BYTES && good && signLevel(signKind()) == level; i++) {
                 int kind = signKind();
                 tape.advance();
-                good = expression(level + 1, open) && emit(kind, 0);
+                good = operand(level, open) && emit(kind, 0);
             }
             return good;
+        }
+
+        private boolean operand(int level, int open) {
+            return level >= FACTORS ? unit(open) : expression(level + 1, open);
         }
 
         private boolean unit(int open) {
@@ -1076,7 +1078,8 @@ public final class StrangerHall {
                     push(cells[MEMORY + (pop() & MEMORY_MASK)]);
                     break;
                 case POKE:
-                    poke();
+                    int value = pop();
+                    cells[MEMORY + (pop() & MEMORY_MASK)] = value;
                     break;
                 case JUMP:
                     cells[PLACE] = number;
@@ -1090,7 +1093,8 @@ public final class StrangerHall {
                     putOut(pop());
                     break;
                 default:
-                    work(kind);
+                    int right = pop();
+                    push(worked(kind, pop(), right));
                     break;
             }
         }
@@ -1114,12 +1118,6 @@ public final class StrangerHall {
             return value;
         }
 
-        private void poke() {
-            int value = pop();
-            int address = pop() & MEMORY_MASK;
-            cells[MEMORY + address] = value;
-        }
-
         private void putOut(int value) {
             int number = cells[OUTS];
             if (number >= 0 && number < MOST_OUTS) {
@@ -1127,12 +1125,6 @@ public final class StrangerHall {
             }
             cells[OUTS] = number + 1;
             cells[OUT_SUM] = 31 * cells[OUT_SUM] + value;
-        }
-
-        private void work(int kind) {
-            int right = pop();
-            int left = pop();
-            push(worked(kind, left, right));
         }
 
         private static int worked(int kind, int left, int right) {
@@ -1391,7 +1383,6 @@ public final class StrangerHall {
             piece.quarrel.begin(doubter, now);
             piece.quarrel.setStart(piece.first, ahead);
             piece.quarrel.setEnd(piece.last, piece.number, number);
-            judgeIfNarrow(task, j);
         }
 
         private boolean judgeIfNarrow(Task task, int j) {
@@ -1498,7 +1489,7 @@ public final class StrangerHall {
                 case QUARREL:
                     return piece.quarrel.askedTick + rules[TURN];
                 default:
-                    return Integer.MAX_VALUE;
+                    return NEVER;
             }
         }
 
@@ -1546,10 +1537,6 @@ public final class StrangerHall {
                     size++;
                 }
             }
-            for (int h = 0; h < MOST_HOUSES; h++) {
-                hours[h] = 0;
-                pledges[h] = 0;
-            }
             this.mostHours = mostHours;
             found = false;
             choose(task, houses, 0, 0L);
@@ -1565,33 +1552,30 @@ public final class StrangerHall {
                 }
                 return;
             }
-            if (!task.hasPiece(pieces[depth])) {
-                return;
-            }
-            Piece piece = task.pieces[pieces[depth]];
             for (int h = 0; h < MOST_HOUSES && h < houses.length; h++) {
-                if (!piece.hasBid(h) || !hasRoom(piece, h, houses[h])) {
-                    continue;
-                }
-                long next = cost + piece.bidCost(h, houses[h]);
-                // A way that costs as much as the best one comes later in the order.
-                if (found && next >= bestCost) {
-                    continue;
-                }
-                way[depth] = h;
-                hours[h] += piece.bidHours[h];
-                pledges[h] += piece.bidPledges[h];
-                choose(task, houses, depth + 1, next);
-                hours[h] -= piece.bidHours[h];
-                pledges[h] -= piece.bidPledges[h];
+                tryHouse(task, houses, depth, cost, h);
             }
         }
 
-        private boolean hasRoom(Piece piece, int h, House house) {
-            if (!isWithin(h, 0, MOST_HOUSES - 1)) {
-                return false;
+        private void tryHouse(Task task, House[] houses, int depth, long cost, int h) {
+            if (!isWithin(depth, 0, MOST_CHOSEN - 1) || !isWithin(h, 0, MOST_HOUSES - 1) || h >= houses.length || !task.hasPiece(pieces[depth])) {
+                return;
             }
-            return hours[h] + piece.bidHours[h] <= mostHours && pledges[h] + piece.bidPledges[h] <= house.coins;
+            Piece piece = task.pieces[pieces[depth]];
+            if (!piece.hasBid(h) || hours[h] + piece.bidHours[h] > mostHours || pledges[h] + piece.bidPledges[h] > houses[h].coins) {
+                return;
+            }
+            long next = cost + piece.bidCost(h, houses[h]);
+            // A way that costs as much as the best one comes later in the order.
+            if (found && next >= bestCost) {
+                return;
+            }
+            way[depth] = h;
+            hours[h] += piece.bidHours[h];
+            pledges[h] += piece.bidPledges[h];
+            choose(task, houses, depth + 1, next);
+            hours[h] -= piece.bidHours[h];
+            pledges[h] -= piece.bidPledges[h];
         }
 
         private int houseFor(int piece) {

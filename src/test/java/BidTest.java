@@ -175,6 +175,10 @@ public final class BidTest {
         chosenIs("more than its coins", hall, 3, 10, 600 + 1000, 0, 1);
         hall.bid(0, 0, 0, 1, 1, 1001);
         chosenIs("one more than its coins", hall, 1, 10, 1000, 1);
+        hall.bid(0, 0, 0, 9, 1, 1000);
+        hall.bid(0, 0, 1, 5, 1, 0);
+        hall.bid(0, 1, 0, 1, 1, 1000);
+        chosenIs("each its own", hall, 3, 10, 1000 + 600, 1, 0);
         hall.give(0, 3, 0, 1, 500, 9);
         chosenIs("coins of now", hall, 2, 10, 1000, -1, 1);
     }

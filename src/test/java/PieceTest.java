@@ -273,6 +273,11 @@ public final class PieceTest {
         Check.is("P19 the same pledge", hall.told(2, 0), 300);
         Check.is("P19 held", hall.count(4), 801 + 800 + 700);
         Check.is("P19 doubted already", hall.doubt(0, 0, 1, 7), -1);
+        StrangerHall exact = hallOf(SHORT_TEXT, 20);
+        exact.give(0, 0, 0, 0, 1000, 9);
+        exact.claim(0, 0, 5);
+        Check.is("P19 all its coins", exact.doubt(0, 0, 1, 6), 1);
+        Check.is("P19 none is left", exact.told(1, 0), 0);
         Check.is("P17 in a quarrel", hall.give(0, 0, 1, 0, 0, 1), -1);
         Check.is("P18 in a quarrel", hall.claim(0, 0, 1), -1);
     }
@@ -508,9 +513,9 @@ public final class PieceTest {
 
     private static void voidChain() {
         StrangerHall hall = hallOf(SHORT_TEXT, 10);
-        for (int p = 1; p < 4; p++) {
-            hall.give(0, p, 0, 100, 50, 900);
-        }
+        hall.give(0, 1, 0, 100, 50, 900);
+        hall.give(0, 2, 0, 100, 7, 900);
+        hall.give(0, 3, 0, 100, 30, 900);
         hall.claim(0, 3, 9);
         hall.tick(10);
         Check.is("P22 waits", state(hall, 3), 5);
@@ -593,6 +598,18 @@ public final class PieceTest {
         kept.claim(0, 0, 9);
         kept.tick(10);
         Check.is("P22 both kept", state(kept, 1), 4);
+        // A quarrel that ends some ticks before the one ahead is void ends with its lies.
+        StrangerHall early = hallOf(SHORT_TEXT, 10);
+        early.give(0, 0, 0, 100, 50, 9);
+        early.give(0, 1, 1, 100, 50, 9);
+        early.claim(0, 0, 9);
+        early.claim(0, 1, 9);
+        early.doubt(0, 1, 2, 8);
+        early.tick(2);
+        early.doubt(0, 0, 2, 8);
+        early.tick(20);
+        houseIs("P22 silent early", early, 1, 950, 0, 1);
+        houseIs("P22 silent twice", early, 2, 900, 0, 2);
         // Many ticks at once are as many one by one.
         StrangerHall late = hallOf(SHORT_TEXT, 10);
         late.give(0, 0, 0, 100, 50, 9);

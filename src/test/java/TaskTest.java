@@ -95,6 +95,9 @@ public final class TaskTest {
         fault("a=b c;", 1, 4);
         fault("a=bc;", 1, 2);
         fault("ab=1;", 1, 0);
+        fault("az=1;", 1, 0);
+        fault("a=bz;", 1, 2);
+        fault("a`=1;", 1, 1);
         fault("i=1;", 1, 0);
         fault("h=1;", 0, -1);
         fault("a=i;", 1, 2);
@@ -149,6 +152,15 @@ public final class TaskTest {
         fault("a=4294967297;", 2, 2);
         fault("a=99999999999999999999999999999;", 2, 2);
         fault("a=1+ 100000 $", 2, 5);
+        fault("m[100000]=1;", 2, 2);
+        fault("m[1]=100000;", 2, 5);
+        fault("out 100000;", 2, 4);
+        fault("while 100000{}", 2, 6);
+        fault("while 1{a=100000;}", 2, 10);
+        fault("if 100000{}", 2, 3);
+        fault("if 1{a=100000;}", 2, 7);
+        fault("if 1{}else{a=100000;}", 2, 13);
+        fault("if 1{}a=100000;", 2, 8);
         fault("a=1 100000;", 1, 4);
         fault("a=$100000;", 1, 2);
         fault("a=1\t;", 1, 3);
