@@ -219,8 +219,9 @@ public final class MachineTest {
     }
 
     private static void pages() {
-        StrangerHall hall = hallOf("m[9]=0-77;b=5;while b>0{m[b*7]=b*b;b=b-1;}");
+        String text = "m[9]=0-77;b=5;while b>0{m[b*7]=b*b;b=b-1;}";
         for (int page = 0; page < 16; page += 5) {
+            StrangerHall hall = hallOf(text);
             for (int level = 0; level < 4; level++) {
                 int size = 1 << level;
                 int first = (page / size ^ 1) * size;
@@ -230,6 +231,7 @@ public final class MachineTest {
             Check.is("P12 shown page " + page, hall.shown(0, 20, page, sum), true);
             Check.is("P12 not shown page " + page, hall.shown(0, 20, page, sum + 1), false);
         }
+        StrangerHall hall = hallOf(text);
         Check.noValue("P10 page -1", () -> hall.beside(0, 0, -1, 0));
         Check.noValue("P10 page 16", () -> hall.beside(0, 0, 16, 0));
         Check.noValue("P10 level -1", () -> hall.beside(0, 0, 0, -1));

@@ -27,11 +27,13 @@ public final class RandomRunsTest {
     }
 
     private void go() {
-        int tasks = 1 + pick(3);
+        // Some runs begin with all the tasks and houses that there can be.
+        boolean full = chance(20);
+        int tasks = full ? 6 : 1 + pick(3);
         for (int i = 0; i < tasks; i++) {
             newTask();
         }
-        for (int i = 2 + pick(4); i > 0; i--) {
+        for (int i = full ? 8 : 2 + pick(4); i > 0; i--) {
             int coins = pick(2000);
             same("house", () -> hall.house(coins), () -> plain.house(coins));
         }
