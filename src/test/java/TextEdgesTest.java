@@ -153,6 +153,29 @@ public final class TextEdgesTest {
         Check.feed(hall, "h=9;a=1;b=2;c=3;d=4;");
         Check.is("P3 what stands behind is not read", hall.task(0, 7), -9);
         Check.is("P4 at the length", hall.fault(), 7);
+        // What stands behind belongs to no word, number or sign of the text.
+        firstBytes("out m[1];", 1, 1, 0);
+        firstBytes("out m[1];", 2, 1, 0);
+        firstBytes("out m[1];", 3, 1, 3);
+        firstBytes("out m[1];", 5, 1, 5);
+        firstBytes("ab=1;", 1, 1, 1);
+        firstBytes("a=bc;", 3, 1, 3);
+        firstBytes("whilea{}", 5, 1, 5);
+        firstBytes("if 1{}elsex{}", 10, 1, 10);
+        firstBytes("a=123;", 3, 1, 3);
+        firstBytes("a=1000000;", 7, 1, 7);
+        firstBytes("a=1000000;", 8, 2, 2);
+        firstBytes("a=1;", 3, 1, 3);
+        firstBytes("a=1;  $", 6, 0, -1);
+        firstBytes("a=1;b=x;", 4, 0, -1);
+        firstBytes("a=1+2;", 3, 1, 3);
+    }
+
+    private static void firstBytes(String tape, int n, int fault, int place) {
+        StrangerHall hall = new StrangerHall();
+        Check.feed(hall, tape);
+        Check.is("P3 the first " + n + " of \"" + tape + "\"", hall.task(0, n), fault == 0 ? 0 : fault - 10);
+        Check.is("P4 the place in the first " + n + " of \"" + tape + "\"", hall.fault(), place);
     }
 
     /** "IllegalArgumentException: the PURSE is not 0 to 1,000,000" */
