@@ -63,6 +63,7 @@ public final class PieceEdgesTest {
         voidEachByItsOwnQuarrel();
         orderInOneTick();
         tickByTick();
+        earlierTicksFirst();
         ruleOfNow();
         tickBounds();
         lastTick();
@@ -1112,22 +1113,55 @@ public final class PieceEdgesTest {
             houseIs("P22 by " + jump, hall, 2, 1000 - 31 - 9, 0, 2);
             coinsAre("P22 by " + jump, hall, 900, 62 + 7 + 8 + 9, 0);
         }
-        // The quarrel of 1 ends with its lies at 5, before that of 0 makes it void at 8.
-        int[] others = {1, 3, 10};
-        for (int jump : others) {
-            StrangerHall hall = hallOf(LONG_TEXT, 10);
-            claim(hall, 0, 0, 1);
-            claim(hall, 1, 1, 2);
-            hall.doubt(0, 1, 2, 5);
-            hall.tick(3);
-            hall.doubt(0, 0, 2, 5);
-            for (int now = 0; now < 10; now += jump) {
-                hall.tick(Math.min(jump, 10 - now));
+    }
+
+    /** What lapses first counts first, in each task and at both ends of its row of pieces. */
+    private static void earlierTicksFirst() {
+        int[] jumps = {1, 3, 10};
+        for (int task = 0; task < 6; task++) {
+            for (int jump : jumps) {
+                laterOneLapsesFirst(task, 0, jump);
+                laterOneLapsesFirst(task, 18, jump);
             }
-            houseIs("P22 lies at 5, by " + jump, hall, 1, 969, 0, 1);
-            houseIs("P22 lies at 5 and 8, by " + jump, hall, 2, 938, 0, 2);
-            Check.is("P20 void once, by " + jump, hall.piece(0, 1, 8), 1);
         }
+    }
+
+    /** The quarrel of the next piece ends with its lies at 5, before that of this piece makes it void at 8. */
+    private static void laterOneLapsesFirst(int task, int piece, int jump) {
+        StrangerHall hall = sixTasks();
+        String what = " in " + task + ", " + piece + ", by " + jump;
+        if (piece > 0) {
+            hall.give(task, piece - 1, 0, 0, 0, 900);
+            hall.claim(task, piece - 1, 1);
+        }
+        for (int j = piece; j < piece + 2; j++) {
+            hall.give(task, j, j - piece, 100, 31, 900);
+            hall.claim(task, j, 1);
+        }
+        hall.doubt(task, piece + 1, 2, 5);
+        hall.tick(3);
+        hall.doubt(task, piece, 2, 5);
+        Check.is("P31 two prices and four pledges" + what, hall.count(4), 324);
+        for (int now = 0; now < 10; now += jump) {
+            hall.tick(Math.min(jump, 10 - now));
+        }
+        houseIs("P22 lies at 5" + what, hall, 1, 969, 0, 1);
+        houseIs("P22 lies at 5 and 8" + what, hall, 2, 938, 0, 2);
+        Check.is("P20 void once" + what, hall.piece(task, piece + 1, 8), 1);
+        Check.is("P31 none held" + what, hall.count(4), 0);
+        Check.is("P31 the chest" + what, hall.count(3), 124);
+    }
+
+    private static StrangerHall sixTasks() {
+        StrangerHall hall = new StrangerHall();
+        for (int t = 0; t < 6; t++) {
+            Check.task(hall, 1000, LONG_TEXT);
+            hall.cut(t, 10);
+        }
+        for (int h = 0; h < 3; h++) {
+            hall.house(1000);
+        }
+        return hall;
     }
 
     /** "(.. WINDOW, TURN TICKS or more behind)" */
@@ -1230,7 +1264,11 @@ public final class PieceEdgesTest {
             hall.give(t, 19, 0, 1, 2, 9 + t);
         }
         hall.doubt(5, 0, 1, 77);
+        Check.is("P31 held: in each task both prices and pledges, and the doubter's", hall.count(4), 6 * 18 + 5);
+        Check.is("P31 all", hall.count(7), 2600);
         hall.tick(10);
+        Check.is("P31 held: for the late ones of 1 to 5", hall.count(4), 15);
+        Check.is("P31 all", hall.count(7), 2600);
         for (int t = 0; t < 5; t++) {
             Check.is("P22 kept in " + t, hall.piece(t, 0, 0), KEPT);
             Check.is("P32 purse of " + t, hall.purse(t), t == 0 ? 90 : 89);

@@ -501,12 +501,22 @@ public final class TextEdgesTest {
         fault("a=m[1]" + "+1".repeat(99) + ";", 4, 205);
         fault("a=m[1]" + "+1".repeat(99) + ";  ", 4, 207);
         fault("a=1" + "+1".repeat(198) + ";", 4, 400);
-        String code = "a=1" + "+1".repeat(120) + ";";
-        fault(code + "b", 1, code.length() + 1);
-        fault(code + "$", 1, code.length());
-        fault(code + "b=100000;", 2, code.length() + 2);
-        fault(code + "b=(((((((1", 3, code.length() + 8);
-        fault(code.substring(0, code.length() - 1), 1, code.length() - 1);
+        // Of one head the 201st step is a number, of the other a sign.
+        for (String head : new String[] {"a=1", "a=m[1]"}) {
+            String code = head + "+1".repeat(120) + ";";
+            fault(code + "b", 1, code.length() + 1);
+            fault(code + "$", 1, code.length());
+            fault(code + "b=100000;", 2, code.length() + 2);
+            fault(code + "b=(((((((1", 3, code.length() + 8);
+            fault(code.substring(0, code.length() - 1), 1, code.length() - 1);
+        }
+        // Nothing is left of one that was too long.
+        StrangerHall behind = new StrangerHall();
+        Check.is("P3 too long", Check.task(behind, 0, "a=1" + "+1".repeat(150) + ";"), -6);
+        Check.is("P3 200 steps behind it", Check.task(behind, 0, "a=m[1]" + "+1".repeat(98) + ";"), 0);
+        Check.is("P5 its HALT", behind.code(0, 199, 0), 0);
+        Check.is("P5 its HALT's number", behind.code(0, 199, 1), 0);
+        Check.is("P7 its steps", behind.length(0), 199);
         // Each kind of statement counts: the 200th step is HALT, with one more it is too long.
         String[] ends = {"while a{}", "if a{}", "if a{}else{}", "out a;", "m[a]=a;"};
         int[] steps = {3, 2, 3, 2, 3};
